@@ -41,14 +41,15 @@ public final class TrajectoryCheck {
     private static final int VALUE_X = 2, VALUE_RULED_OUT = 3;
 
     private final Tape tape = new Tape();
-    private final Reader reader = new Reader();
-    private final Check check = new Check();
+    private final Symbols mentions = new Symbols(MAX_ATOMS);
+    private final Rows rows = new Rows();
     /** A text is read into the spare one, so that a fault in it leaves what stands as it is. */
     private Circuit present = new Circuit();
     private Circuit spare = new Circuit();
     private Assertion claim = new Assertion();
     private Assertion spareClaim = new Assertion();
-    private boolean asserted = false;
+    /** What came of the assertion; null while there is none. */
+    private Check check = null;
 
     public TrajectoryCheck() {
     }
@@ -74,7 +75,7 @@ public final class TrajectoryCheck {
     }
 
     public int circuit() {
-        int fault = reader.readCircuit(tape, spare);
+        int fault = new Reader(tape, spare.code, NAME, mentions).readCircuit(spare);
         tape.size = 0;
         if (fault != NONE) {
             return fault;
@@ -82,12 +83,12 @@ public final class TrajectoryCheck {
         Circuit old = present;
         present = spare;
         spare = old;
-        asserted = false;
+        check = null;
         return NONE;
     }
 
     public int assertion() {
-        int fault = reader.readAssertion(tape, present, spareClaim);
+        int fault = new Reader(tape, spareClaim.code, VARIABLE, spareClaim.variables).readAssertion(present, spareClaim);
         tape.size = 0;
         if (fault != NONE) {
             return fault;
@@ -95,42 +96,42 @@ public final class TrajectoryCheck {
         Assertion old = claim;
         claim = spareClaim;
         spareClaim = old;
-        asserted = true;
-        check.checkAll(present, claim);
+        check = new Check(present, claim, rows);
+        check.checkAll();
         return NONE;
     }
 
     public int fails() {
-        return asserted ? check.total(check.broken) : REFUSED;
+        return check == null ? REFUSED : check.total(check.broken);
     }
 
     public int excluded() {
-        return asserted ? check.total(check.ruledOut) : REFUSED;
+        return check == null ? REFUSED : check.total(check.ruledOut);
     }
 
     public int failing(int k) {
-        return asserted ? check.brokenByRank(k) : NONE;
+        return check == null ? NONE : check.brokenByRank(k);
     }
 
     public int shortfall(int assignment, int what) {
         if (what != 0 && what != 1) {
             return REFUSED;
         }
-        if (!asserted || !check.hasAssignment(assignment)) {
+        if (check == null || !check.hasAssignment(assignment)) {
             return NONE;
         }
         return check.firstMiss(assignment, what == 0);
     }
 
     public int value(int node, int time, int assignment) {
-        if (!asserted || !check.hasMoment(node, time) || !check.hasAssignment(assignment)) {
+        if (check == null || !check.hasMoment(node, time) || !check.hasAssignment(assignment)) {
             return NONE;
         }
         return check.valueAt(node, time, assignment);
     }
 
     public int matters(int node, int time, int v) {
-        if (!asserted || !check.hasMoment(node, time) || v < 0 || v >= claim.variables.size) {
+        if (check == null || !check.hasMoment(node, time) || v < 0 || v >= claim.variables.size) {
             return NONE;
         }
         return check.dependsOnVariable(node, time, v) ? 1 : 0;
@@ -151,13 +152,13 @@ public final class TrajectoryCheck {
             case 3:
                 return present.nodesOfKind(LATCH);
             case 4:
-                return asserted ? claim.variables.size : 0;
+                return check == null ? 0 : claim.variables.size;
             case 5:
-                return asserted ? claim.given.size : 0;
+                return check == null ? 0 : claim.given.size;
             case 6:
-                return asserted ? claim.behind.size : 0;
+                return check == null ? 0 : claim.behind.size;
             case 7:
-                return asserted ? claim.last : 0;
+                return check == null ? 0 : claim.last;
             default:
                 return REFUSED;
         }
@@ -299,11 +300,6 @@ public final class TrajectoryCheck {
         /** The nodes, each wire behind what it is made of. */
         final int[] order = new int[MAX_NODES];
 
-        void clear() {
-            nodes.size = 0;
-            code.size = 0;
-        }
-
         boolean hasNode(int node) {
             return node >= 0 && node < nodes.size;
         }
@@ -433,13 +429,6 @@ public final class TrajectoryCheck {
         final Clauses given = new Clauses();
         final Clauses behind = new Clauses();
         int last = 0;
-
-        void clear() {
-            variables.size = 0;
-            code.size = 0;
-            given.size = 0;
-            behind.size = 0;
-        }
     }
 
     /**
@@ -447,30 +436,36 @@ public final class TrajectoryCheck {
      * that can not stand there, whose place is the fault.
      */
     private static final class Reader {
-        private final Symbols mentions = new Symbols(MAX_ATOMS);
-        private Tape tape = null;
-        private Code code = null;
+        private final Tape tape;
+        private final Code code;
         /** What the atoms of an expression may be: tokens of this kind, numbered by these symbols. */
-        private int atomKind = NAME;
-        private Symbols symbols = null;
+        private final int atomKind;
+        private final Symbols symbols;
         private int atoms = 0;
 
-        int readCircuit(Tape text, Circuit into) {
-            into.clear();
-            mentions.size = 0;
-            startText(text, into.code, NAME, mentions);
+        Reader(Tape tape, Code code, int atomKind, Symbols symbols) {
+            this.tape = tape;
+            this.code = code;
+            this.atomKind = atomKind;
+            this.symbols = symbols;
+        }
+
+        int readCircuit(Circuit into) {
+            into.nodes.size = 0;
+            startText();
             // Every item declares a node, so none can stand behind MAX_NODES of them.
             for (int i = 0; i <= MAX_NODES && tape.kind != END; i++) {
                 if (!readItem(into)) {
                     return tape.place;
                 }
             }
-            return into.settle(mentions);
+            return into.settle(symbols);
         }
 
-        int readAssertion(Tape text, Circuit circuit, Assertion into) {
-            into.clear();
-            startText(text, into.code, VARIABLE, into.variables);
+        int readAssertion(Circuit circuit, Assertion into) {
+            into.given.size = 0;
+            into.behind.size = 0;
+            startText();
             boolean whole = take(GIVEN) && readClauses(into.given, circuit)
                 && take(THEN) && readClauses(into.behind, circuit)
                 && take('.') && tape.kind == END;
@@ -478,12 +473,9 @@ public final class TrajectoryCheck {
             return whole ? NONE : tape.place;
         }
 
-        private void startText(Tape text, Code into, int kindOfAtoms, Symbols symbolsOfAtoms) {
-            tape = text;
-            code = into;
-            atomKind = kindOfAtoms;
-            symbols = symbolsOfAtoms;
-            atoms = 0;
+        private void startText() {
+            code.size = 0;
+            symbols.size = 0;
             tape.startReading();
         }
 
@@ -681,8 +673,15 @@ public final class TrajectoryCheck {
                 int step = code.steps[i];
                 if (step >= 0) {
                     push(atoms.ones[base + step], atoms.zeros[base + step]);
+                } else if (step == ZERO) {
+                    push(0, -1);
+                } else if (step == ONE) {
+                    push(-1, 0);
+                } else if (step == NOT) {
+                    pop();
+                    push(zero, one);
                 } else {
-                    operate(step);
+                    join(step);
                 }
             }
             pop();
@@ -704,19 +703,6 @@ public final class TrajectoryCheck {
             }
         }
 
-        private void operate(int step) {
-            if (step == ZERO) {
-                push(0, -1);
-            } else if (step == ONE) {
-                push(-1, 0);
-            } else if (step == NOT) {
-                pop();
-                push(zero, one);
-            } else {
-                join(step);
-            }
-        }
-
         private void join(int step) {
             pop();
             long rightOne = one;
@@ -732,25 +718,44 @@ public final class TrajectoryCheck {
         }
     }
 
-    /** The trajectories of all assignments, and what came of them. */
-    private static final class Check {
+    /** The room that a check needs; one does for all, since a check ends when the next one begins. */
+    private static final class Rows {
+        final Signals trajectory = new Signals(MAX_WORDS * TIMES * MAX_NODES);
+        final Signals variables = new Signals(MAX_VARIABLES);
+        final Signals said = new Signals(MAX_CLAUSES);
         final long[] ruledOut = new long[MAX_WORDS];
         final long[] broken = new long[MAX_WORDS];
-        private final Signals trajectory = new Signals(MAX_WORDS * TIMES * MAX_NODES);
-        private final Signals variables = new Signals(MAX_VARIABLES);
-        /** What the clauses of one part say under the assignments of one word. */
-        private final Signals said = new Signals(MAX_CLAUSES);
-        private final Evaluator evaluator = new Evaluator();
-        private Circuit circuit = null;
-        private Assertion claim = null;
-        private int assignments = 0;
-        private int words = 0;
+        final Evaluator evaluator = new Evaluator();
+    }
 
-        void checkAll(Circuit ofCircuit, Assertion ofClaim) {
-            circuit = ofCircuit;
-            claim = ofClaim;
+    /** The trajectories of all assignments, and what came of them. */
+    private static final class Check {
+        final long[] ruledOut;
+        final long[] broken;
+        private final Signals trajectory;
+        private final Signals variables;
+        /** What the clauses of one part say under the assignments of one word. */
+        private final Signals said;
+        private final Evaluator evaluator;
+        private final Circuit circuit;
+        private final Assertion claim;
+        private final int assignments;
+        private final int words;
+
+        Check(Circuit circuit, Assertion claim, Rows rows) {
+            this.circuit = circuit;
+            this.claim = claim;
+            ruledOut = rows.ruledOut;
+            broken = rows.broken;
+            trajectory = rows.trajectory;
+            variables = rows.variables;
+            said = rows.said;
+            evaluator = rows.evaluator;
             assignments = 1 << claim.variables.size;
             words = (assignments + WORD_BITS - 1) / WORD_BITS;
+        }
+
+        void checkAll() {
             for (int word = 0; word < words; word++) {
                 checkWord(word);
             }
