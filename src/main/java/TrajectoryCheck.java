@@ -191,7 +191,7 @@ public final class TrajectoryCheck {
                 next++;
             }
             place = next;
-            int first = next < size ? bytes[next] : END;
+            int first = next < size ? bytes[next] & 255 : END;
             if (first == END) {
                 kind = END;
             } else if (first >= 'a' && first <= 'z') {

@@ -1,7 +1,7 @@
 /** Promise 5: assertion, with the grammar and the faults of assertions. */
 public final class AssertionTest {
     private static final int NONE = TrajectoryCheck.NONE, REFUSED = TrajectoryCheck.REFUSED;
-    private static final TrajectoryCheck AB = Drive.with("input a; wire b = !a;");
+    private static final String AB = "input a; wire b = !a;";
 
     public static void main(String[] args) {
         good();
@@ -17,12 +17,12 @@ public final class AssertionTest {
         Drive.finish("AssertionTest");
     }
 
-    private static void good(String text) {
-        Drive.assertion(AB, text, NONE);
+    private static TrajectoryCheck good(String text) {
+        return Drive.with(AB, text);
     }
 
     private static void bad(String marked) {
-        Drive.faultyAssertion(AB, marked);
+        Drive.faultyAssertion(Drive.with(AB), marked);
     }
 
     private static void good() {
@@ -114,12 +114,12 @@ public final class AssertionTest {
         bad("given a is 1 at 0 to @12 then b is 0.");
         bad("given a is 1 at 3 to @2 then b is 0.");
         bad("given a is 1 then b is 0 at 11 to @10.");
-        good("given a is 1 at 3 to 3 then b is 0 at 0003 to 003.");
-        Drive.due("the last time", AB.count(7), 3);
-        good("given a is 1 at 5 to 10 then b is 0 at 9.");
-        Drive.due("the last time", AB.count(7), 10);
-        good("given a is 1 then b is 0 at 11 to 11.");
-        Drive.due("the last time", AB.count(7), 11);
+        TrajectoryCheck x = good("given a is 1 at 3 to 3 then b is 0 at 0003 to 003.");
+        Drive.due("the last time", x.count(7), 3);
+        x = good("given a is 1 at 5 to 10 then b is 0 at 9.");
+        Drive.due("the last time", x.count(7), 10);
+        x = good("given a is 1 then b is 0 at 11 to 11.");
+        Drive.due("the last time", x.count(7), 11);
     }
 
     private static void depth() {
@@ -131,9 +131,9 @@ public final class AssertionTest {
 
     private static void manyClauses() {
         String all = Drive.repeat("a is 1", ", ", 24);
-        good("given " + all + " then " + all + ".");
-        Drive.due("clauses given", AB.count(5), 24);
-        Drive.due("clauses behind then", AB.count(6), 24);
+        TrajectoryCheck x = good("given " + all + " then " + all + ".");
+        Drive.due("clauses given", x.count(5), 24);
+        Drive.due("clauses behind then", x.count(6), 24);
         bad("given " + all + ", @a is 1 then " + all + ".");
         bad("given " + all + " then " + all + ", @a is 1.");
         bad("given " + all + ", @then a is 1.");
@@ -143,12 +143,12 @@ public final class AssertionTest {
     }
 
     private static void manyVariables() {
-        good("given a is A1&A2&A3&A4 if A5 then b is A6 if A7^A8^A9, a is A1^A9.");
-        Drive.due("variables", AB.count(4), 9);
+        TrajectoryCheck x = good("given a is A1&A2&A3&A4 if A5 then b is A6 if A7^A8^A9, a is A1^A9.");
+        Drive.due("variables", x.count(4), 9);
         bad("given a is A1&A2&A3&A4 if A5 then b is A6 if A7^A8^A9, a is A1^@A0.");
         bad("given a is A1&A2&A3&A4 if A5 then b is A6 if A7^A8^A9^(!@A).");
-        good("given a is A then b is A.");
-        Drive.due("variables of another assertion do not add up", AB.count(4), 1);
+        Drive.assertion(x, "given a is A then b is A.", NONE);
+        Drive.due("variables of another assertion do not add up", x.count(4), 1);
     }
 
     private static void manyAtoms() {

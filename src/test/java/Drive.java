@@ -63,6 +63,23 @@ final class Drive {
         return x;
     }
 
+    /** Numbers below 0 and from the first that is too large up, the ends of int and what wraps around among them. */
+    static int[] outside(int first) {
+        return new int[] {
+            Integer.MIN_VALUE, Integer.MIN_VALUE + 1, -512, -64, -32, -3, -2, -1, first, first + 1, first + 32, first + 64,
+            first + 512, 1 << 16, 1 << 30, Integer.MAX_VALUE - 1, Integer.MAX_VALUE
+        };
+    }
+
+    /** Other symbols than each other: prefix0, prefix1, .. */
+    static String list(String prefix, String between, int size) {
+        StringBuilder all = new StringBuilder();
+        for (int i = 0; i < size; i++) {
+            all.append(i == 0 ? "" : between).append(prefix).append(i);
+        }
+        return all.toString();
+    }
+
     static String repeat(String part, String between, int times) {
         StringBuilder all = new StringBuilder();
         for (int i = 0; i < times; i++) {

@@ -1,3 +1,4 @@
+import java.util.ArrayList;
 import java.util.List;
 
 /** All promises: texts made by a fixed seed, whole and broken, answered as the slow model answers. */
@@ -7,7 +8,19 @@ public final class ModelTest {
         "", " ", "=", "&", "|", "^", "!", "(", ")", ";", ",", ".", "a", "n1", "A", "0", "1", "2", "00", "12", "99999",
         "input", "wire", "latch", "given", "then", "is", "if", "at", "to", "abcdefghi", "?", "\t", "\u00e4", "\n", "n0 ", "!!!!!"
     };
+    private static final int MOST_CALLS = 512;
     private static long seed = 20261115;
+
+    /** The object that is asked, and all that it was told: before it has too many calls, a new one is told the same. */
+    private static TrajectoryCheck asked = new TrajectoryCheck();
+    private static int calls = 0;
+    private static final List<Told> told = new ArrayList<>();
+
+    private record Told(boolean isCircuit, String text, int due) {
+        int calls() {
+            return (text.length() + 19) / 20 + 2;
+        }
+    }
 
     public static void main(String[] args) {
         for (int round = 0; round < 400; round++) {
@@ -22,19 +35,55 @@ public final class ModelTest {
     }
 
     private static void play() {
-        TrajectoryCheck x = new TrajectoryCheck();
         Model model = new Model();
+        told.clear();
+        renew();
         int variables = 1 + below(below(4) == 0 ? 10 : 5);
         for (int texts = 0; texts < 6; texts++) {
             int size = 1 + below(12);
             if (texts == 0 || below(4) == 0) {
                 String text = spoil(circuitText(size), below(2) == 0 ? 0 : 1 + below(2));
-                Drive.circuit(x, text, model.circuit(text));
+                tell(new Told(true, text, model.circuit(text)));
             }
             String text = spoil(assertionText(Math.max(1, model.count(0)), variables), below(3) == 0 ? 1 : 0);
-            Drive.assertion(x, text, model.assertion(text));
-            compare(x, model);
+            tell(new Told(false, text, model.assertion(text)));
+            compare(model);
         }
+    }
+
+    private static void tell(Told next) {
+        told.add(next);
+        if (calls + next.calls() > MOST_CALLS) {
+            renew();
+        } else {
+            feed(next);
+        }
+    }
+
+    private static void renew() {
+        asked = new TrajectoryCheck();
+        calls = 0;
+        for (Told one : told) {
+            feed(one);
+        }
+    }
+
+    private static void feed(Told one) {
+        calls += one.calls();
+        if (one.isCircuit) {
+            Drive.circuit(asked, one.text, one.due);
+        } else {
+            Drive.assertion(asked, one.text, one.due);
+        }
+    }
+
+    /** The object for one more call. */
+    private static TrajectoryCheck ask() {
+        if (calls >= MOST_CALLS) {
+            renew();
+        }
+        calls++;
+        return asked;
     }
 
     private static String spoil(String text, int times) {
@@ -103,32 +152,32 @@ public final class ModelTest {
         return text.toString();
     }
 
-    private static void compare(TrajectoryCheck x, Model model) {
-        Drive.due("fails", x.fails(), model.fails());
-        Drive.due("excluded", x.excluded(), model.excluded());
+    private static void compare(Model model) {
+        Drive.due("fails", ask().fails(), model.fails());
+        Drive.due("excluded", ask().excluded(), model.excluded());
         List<Integer> failing = model.failing();
         for (int k = -1; k <= failing.size(); k++) {
-            Drive.due("failing", x.failing(k), k < 0 || k == failing.size() ? Model.NONE : failing.get(k));
+            Drive.due("failing", ask().failing(k), k < 0 || k == failing.size() ? Model.NONE : failing.get(k));
         }
         for (int what = -1; what <= 8; what++) {
-            Drive.due("count", x.count(what), model.count(what));
+            Drive.due("count", ask().count(what), model.count(what));
         }
         int nodes = model.count(0);
         int last = model.count(7);
         int variables = model.count(4);
         for (int number = -1; number <= 1 << variables; number++) {
             for (int what = 0; what <= 2; what++) {
-                Drive.due("shortfall", x.shortfall(number, what), model.shortfall(number, what));
+                Drive.due("shortfall", ask().shortfall(number, what), model.shortfall(number, what));
             }
         }
         for (int node = -1; node <= nodes; node++) {
-            Drive.due("cone", x.cone(node), model.cone(node));
+            Drive.due("cone", ask().cone(node), model.cone(node));
             for (int time = -1; time <= last + 1; time++) {
                 for (int number = -1; number <= 1 << variables; number++) {
-                    Drive.due("value", x.value(node, time, number), model.value(node, time, number));
+                    Drive.due("value", ask().value(node, time, number), model.value(node, time, number));
                 }
                 for (int v = -1; v <= variables; v++) {
-                    Drive.due("matters", x.matters(node, time, v), model.matters(node, time, v));
+                    Drive.due("matters", ask().matters(node, time, v), model.matters(node, time, v));
                 }
             }
         }

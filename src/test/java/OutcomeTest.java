@@ -82,7 +82,7 @@ public final class OutcomeTest {
         for (int k = 0; k < 256; k++) {
             Drive.due("variable 0 is the highest bit", x.failing(k), 256 + k);
         }
-        Drive.assertion(x, "given y is A|B|C|D|E|F|G|H, x is I then x is 0.", NONE);
+        x = Drive.with(GATES, "given y is A|B|C|D|E|F|G|H, x is I then x is 0.");
         for (int k = 0; k < 256; k++) {
             Drive.due("variable 8 is the lowest", x.failing(k), 2 * k + 1);
         }

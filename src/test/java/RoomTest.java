@@ -25,7 +25,7 @@ public final class RoomTest {
     private static void use(TrajectoryCheck x) {
         x.feed(0x696e7075, 0x7420613b, 0x77697265, 0x20623d21, 0x613b2020);
         Drive.due("circuit", x.circuit(), TrajectoryCheck.NONE);
-        for (int i = 0; i < 40; i++) {
+        for (int i = 0; i < 36; i++) {
             x.feed(0x67697665, 0x6e206120, 0x69732041, 0x20696620, 0x42207468);
             x.feed(0x656e2062, 0x20697320, 0x21412069, 0x6620432e, 0x20202020);
             Drive.due("assertion", x.assertion(), TrajectoryCheck.NONE);
