@@ -14,6 +14,11 @@ final class Drive {
         }
     }
 
+    /** How many answers were not as due until now. */
+    static int wrong() {
+        return wrong;
+    }
+
     static void finish(String test) {
         System.out.println(test + ": " + (wrong == 0 ? "all answers are as due" : wrong + " answers are not as due"));
         if (wrong != 0) {

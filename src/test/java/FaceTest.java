@@ -13,9 +13,12 @@ public final class FaceTest {
         "failing/1", "shortfall/2", "value/3", "matters/3", "cone/1", "count/1"
     };
 
+    private static final Class<?> FACE_CLASS = TrajectoryCheck.class;
+
     public static void main(String[] args) {
         constants();
         members();
+        form();
         newObject();
         Drive.finish("FaceTest");
     }
@@ -27,27 +30,63 @@ public final class FaceTest {
     }
 
     private static void members() {
-        Class<?> face = TrajectoryCheck.class;
         TreeSet<String> seen = new TreeSet<>();
-        for (Field field : face.getDeclaredFields()) {
+        for (Field field : FACE_CLASS.getDeclaredFields()) {
             if (isOpen(field)) {
                 seen.add(field.getName());
-                Drive.due(field.getName() + " is an int", field.getType() == int.class ? 1 : 0, 1);
+                holds(field.getName() + " is an int", field.getType() == int.class);
+                holds(field.getName() + " is a public constant", isPublic(field) && isStatic(field) && isFinal(field));
             }
         }
-        for (Method method : face.getDeclaredMethods()) {
+        for (Method method : FACE_CLASS.getDeclaredMethods()) {
             if (isOpen(method)) {
                 seen.add(method.getName() + "/" + method.getParameterCount());
-                Drive.due(method.getName() + " answers an int", method.getReturnType() == int.class ? 1 : 0, 1);
+                holds(method.getName() + " answers an int", method.getReturnType() == int.class);
+                holds(method.getName() + " is public, of an object", isPublic(method) && !isStatic(method));
+                holds(method.getName() + " takes ints", takesInts(method));
             }
         }
         TreeSet<String> wanted = new TreeSet<>(Arrays.asList(FACE));
-        Drive.due("the face " + seen, seen.equals(wanted) ? 1 : 0, 1);
-        Constructor<?>[] makers = face.getDeclaredConstructors();
+        holds("the face " + seen, seen.equals(wanted));
+        Constructor<?>[] makers = FACE_CLASS.getDeclaredConstructors();
         Drive.due("constructors", makers.length, 1);
         Drive.due("its parameters", makers[0].getParameterCount(), 0);
-        Drive.due("it is public", Modifier.isPublic(makers[0].getModifiers()) ? 1 : 0, 1);
-        Drive.due("the class is final", Modifier.isFinal(face.getModifiers()) ? 1 : 0, 1);
+        holds("it is public", isPublic(makers[0]));
+    }
+
+    private static void form() {
+        holds("the class is public", Modifier.isPublic(FACE_CLASS.getModifiers()));
+        holds("the class is final", Modifier.isFinal(FACE_CLASS.getModifiers()));
+        holds("the class has no package", FACE_CLASS.getPackageName().isEmpty());
+        for (Class<?> inside : FACE_CLASS.getDeclaredClasses()) {
+            int modifiers = inside.getModifiers();
+            holds(inside + " is static", Modifier.isStatic(modifiers));
+            holds(inside + " is not seen", !Modifier.isPublic(modifiers) && !Modifier.isProtected(modifiers));
+            for (Method method : inside.getDeclaredMethods()) {
+                boolean alike = Arrays.stream(FACE).anyMatch(name -> name.startsWith(method.getName() + "/"));
+                holds(inside + "." + method.getName() + " has a name of its own", !alike);
+            }
+        }
+    }
+
+    private static void holds(String what, boolean answer) {
+        Drive.due(what, answer ? 1 : 0, 1);
+    }
+
+    private static boolean takesInts(Method method) {
+        return Arrays.stream(method.getParameterTypes()).allMatch(type -> type == int.class);
+    }
+
+    private static boolean isPublic(Member member) {
+        return Modifier.isPublic(member.getModifiers());
+    }
+
+    private static boolean isStatic(Member member) {
+        return Modifier.isStatic(member.getModifiers());
+    }
+
+    private static boolean isFinal(Member member) {
+        return Modifier.isFinal(member.getModifiers());
     }
 
     private static boolean isOpen(Member member) {

@@ -1,6 +1,3 @@
-import java.util.ArrayList;
-import java.util.List;
-
 /** All promises: texts made by a fixed seed, whole and broken, answered as the slow model answers. */
 public final class ModelTest {
     private static final String[] VARIABLES = {"A", "B", "C", "D", "E1", "FFFF", "G", "H", "Z99", "J"};
@@ -8,19 +5,8 @@ public final class ModelTest {
         "", " ", "=", "&", "|", "^", "!", "(", ")", ";", ",", ".", "a", "n1", "A", "0", "1", "2", "00", "12", "99999",
         "input", "wire", "latch", "given", "then", "is", "if", "at", "to", "abcdefghi", "?", "\t", "\u00e4", "\n", "n0 ", "!!!!!"
     };
-    private static final int MOST_CALLS = 512;
+    private static final int EVERYTHING = Integer.MAX_VALUE;
     private static long seed = 20261115;
-
-    /** The object that is asked, and all that it was told: before it has too many calls, a new one is told the same. */
-    private static TrajectoryCheck asked = new TrajectoryCheck();
-    private static int calls = 0;
-    private static final List<Told> told = new ArrayList<>();
-
-    private record Told(boolean isCircuit, String text, int due) {
-        int calls() {
-            return (text.length() + 19) / 20 + 2;
-        }
-    }
 
     public static void main(String[] args) {
         for (int round = 0; round < 400; round++) {
@@ -35,55 +21,17 @@ public final class ModelTest {
     }
 
     private static void play() {
-        Model model = new Model();
-        told.clear();
-        renew();
+        Story story = new Story();
         int variables = 1 + below(below(4) == 0 ? 10 : 5);
         for (int texts = 0; texts < 6; texts++) {
             int size = 1 + below(12);
             if (texts == 0 || below(4) == 0) {
-                String text = spoil(circuitText(size), below(2) == 0 ? 0 : 1 + below(2));
-                tell(new Told(true, text, model.circuit(text)));
+                story.circuit(spoil(circuitText(size), below(2) == 0 ? 0 : 1 + below(2)));
             }
-            String text = spoil(assertionText(Math.max(1, model.count(0)), variables), below(3) == 0 ? 1 : 0);
-            tell(new Told(false, text, model.assertion(text)));
-            compare(model);
+            int nodes = Math.max(1, story.model().count(0));
+            story.assertion(spoil(assertionText(nodes, variables), below(3) == 0 ? 1 : 0));
+            story.compare(EVERYTHING);
         }
-    }
-
-    private static void tell(Told next) {
-        told.add(next);
-        if (calls + next.calls() > MOST_CALLS) {
-            renew();
-        } else {
-            feed(next);
-        }
-    }
-
-    private static void renew() {
-        asked = new TrajectoryCheck();
-        calls = 0;
-        for (Told one : told) {
-            feed(one);
-        }
-    }
-
-    private static void feed(Told one) {
-        calls += one.calls();
-        if (one.isCircuit) {
-            Drive.circuit(asked, one.text, one.due);
-        } else {
-            Drive.assertion(asked, one.text, one.due);
-        }
-    }
-
-    /** The object for one more call. */
-    private static TrajectoryCheck ask() {
-        if (calls >= MOST_CALLS) {
-            renew();
-        }
-        calls++;
-        return asked;
     }
 
     private static String spoil(String text, int times) {
@@ -150,36 +98,5 @@ public final class ModelTest {
             }
         }
         return text.toString();
-    }
-
-    private static void compare(Model model) {
-        Drive.due("fails", ask().fails(), model.fails());
-        Drive.due("excluded", ask().excluded(), model.excluded());
-        List<Integer> failing = model.failing();
-        for (int k = -1; k <= failing.size(); k++) {
-            Drive.due("failing", ask().failing(k), k < 0 || k == failing.size() ? Model.NONE : failing.get(k));
-        }
-        for (int what = -1; what <= 8; what++) {
-            Drive.due("count", ask().count(what), model.count(what));
-        }
-        int nodes = model.count(0);
-        int last = model.count(7);
-        int variables = model.count(4);
-        for (int number = -1; number <= 1 << variables; number++) {
-            for (int what = 0; what <= 2; what++) {
-                Drive.due("shortfall", ask().shortfall(number, what), model.shortfall(number, what));
-            }
-        }
-        for (int node = -1; node <= nodes; node++) {
-            Drive.due("cone", ask().cone(node), model.cone(node));
-            for (int time = -1; time <= last + 1; time++) {
-                for (int number = -1; number <= 1 << variables; number++) {
-                    Drive.due("value", ask().value(node, time, number), model.value(node, time, number));
-                }
-                for (int v = -1; v <= variables; v++) {
-                    Drive.due("matters", ask().matters(node, time, v), model.matters(node, time, v));
-                }
-            }
-        }
     }
 }
